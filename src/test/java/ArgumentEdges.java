@@ -53,6 +53,11 @@ public final class ArgumentEdges extends Sentences {
         }
     }
 
+    private static void valueOfNone() {
+        sentence(1, "The constants: `NONE = -1`: None.");
+        due("NONE", LoanLetters.NONE, -1);
+    }
+
     // ---- promise 2 ----
 
     private static void copiesOfAllLibrariesAndTitles() {

@@ -235,6 +235,57 @@ public final class LetterEdges extends Sentences {
         dueStates(x, 5, 6);
     }
 
+    private static void everyLetterOfALoanIsDoubled() {
+        sentence(8, "If its number is above SEEN it is HELD");
+        LoanLetters x = asked();
+        int[] libs = {1, 0, 1, 1, 0, 0, 1, 0, 1, 1, 0, 1};
+        int[] steps = {CONDITION, ACCEPT, PROMISE, SHIP, RECEIVE, RENEW, GRANT, RENEW, DENY, RECALL, GIVE_BACK,
+            CHECK_IN};
+        for (int k = 0; k < steps.length; k++) {
+            actAndCarry(x, libs[k], steps[k], steps[k] == CONDITION ? 50 : 0);
+            int[] before = shown(x);
+            for (int i = 0; i <= k + 1; i++) {
+                dueCarry(x, i, 0);
+            }
+            dueAsBefore(x, before);
+        }
+        dueStates(x, 8, 9);
+    }
+
+    private static void oldestLetterIsTheFirst() {
+        sentence(8, "Letter i (the oldest first) is CARRIED");
+        LoanLetters x = filled(3, 3);
+        due("drop(0)", x.drop(0), true);
+        dueCarry(x, 1, 1);
+        dueBook(x, 1, 2, STATE, 1);
+        dueCarry(x, 0, 1);
+        dueBook(x, 1, 1, STATE, 1);
+        dueBook(x, 1, 0, STATE, 0);
+    }
+
+    private static void lettersThatTellNoNumber() {
+        sentence(10, "those not told have the number 0");
+        int[] stages = {1, 1, 1, 2, 2, 4, 5, 5, 5};
+        int[] libs = {0, 1, 1, 0, 0, 0, 0, 0, 0};
+        int[] steps = {CANCEL, PROMISE, REFUSE, ACCEPT, DECLINE, RECEIVE, RENEW, GIVE_BACK, LOSE};
+        int[] kinds = {15, 2, 4, 5, 6, 8, 9, 12, 14};
+        for (int k = 0; k < steps.length; k++) {
+            LoanLetters x = stage(stages[k]);
+            x.pass(100);
+            int next = x.letters();
+            x.act(libs[k], 0, steps[k], 0);
+            due("KIND of step " + steps[k], x.letter(next, 5), kinds[k]);
+            due("the number of step " + steps[k], x.letter(next, 6), 0);
+        }
+        LoanLetters x = cancelling();
+        carryLast(x);
+        due("KIND of the answer", x.letter(3, 5), 16);
+        due("the number of the answer", x.letter(3, 6), 0);
+        x.resend(0, 0);
+        due("KIND of the last one sent again", x.letter(x.letters() - 1, 5), 0);
+        due("the number of the last one sent again", x.letter(x.letters() - 1, 6), 0);
+    }
+
     private static void bareLetterIsNotTaken() {
         sentence(8, "its number (0 of a BARE one)");
         LoanLetters x = sent();
@@ -464,6 +515,10 @@ public final class LetterEdges extends Sentences {
         int seen = x.book(goal, 0, SEEN);
         dueCarry(x, i, 1);
         dueBook(x, goal, 0, SEEN, seen + 1);
+        dueAsBefore(x, before);
+    }
+
+    private static void dueAsBefore(LoanLetters x, int[] before) {
         int[] after = shown(x);
         for (int k = 0; k < before.length; k++) {
             due("what is shown, " + k, after[k], before[k]);

@@ -98,7 +98,6 @@ public final class RefusedCalls extends Sentences {
         log.add(x.carry(x.letters() - 1));
         step(log, x, 3, loan, PROMISE, copy);
         step(log, x, 3, loan, SHIP, 0);
-        log.add(x.letter(x.letters() - 1, 6));
         for (int i = 0; i < Math.min(16, x.letters()); i++) {
             log.add(x.carry(i));
         }
@@ -119,6 +118,7 @@ public final class RefusedCalls extends Sentences {
 
     private static void step(List<Integer> log, LoanLetters x, int lib, int loan, int step, int arg) {
         log.add(answer(() -> x.act(lib, loan, step, arg)));
+        log.add(x.letter(x.letters() - 1, 6));
         log.add(x.carry(x.letters() - 1));
         log.add(x.balance(lib));
     }

@@ -539,8 +539,15 @@ public final class StepEdges extends Sentences {
         for (int k = 0; k < STAGES; k++) {
             due("holder(0) at stage " + k, stage(k).holder(0), holders[k]);
         }
-        due("POST", post, 6);
+    }
+
+    private static void holderThatIsNoLibrary() {
+        sentence(13, "`POST = 6, LOST = 7`: A copy's holder: it is on the way; it is lost.");
+        due("POST", LoanLetters.POST, 6);
         due("LOST", LoanLetters.LOST, 7);
+        due("holder(0), on the way", shipped().holder(0), 6);
+        due("holder(0), on the way back", back().holder(0), 6);
+        due("holder(0), lost", lostOne().holder(0), 7);
     }
 
     private static void promisedAtEachStage() {
