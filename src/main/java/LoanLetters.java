@@ -96,12 +96,13 @@ public final class LoanLetters {
         if (side == null) {
             throw new IllegalArgumentException("the library is neither requester nor supplier");
         }
-        int before = side.acked;
-        for (int k = before; k < side.kept.size(); k++) {
+        int known = side.acked;
+        int sent = side.kept.size();
+        for (int k = known; k < sent; k++) {
             row.add(side, side.kept.get(k));
         }
         row.add(side, bare);
-        return side.kept.size() - before + 1;
+        return sent - known + 1;
     }
 
     public int letters() {
@@ -123,7 +124,9 @@ public final class LoanLetters {
         goal.acked = Math.max(goal.acked, row.told(i, Row.SEEN));
         sender.holdAtGoal(row.told(i, Row.NUMBER));
         int before = goal.seen;
-        for (int k = before; k < sender.kept.size() && sender.kept.get(k).held; k++) {
+        // What is taken may make the goal write, never the sender: so the sender's letters stay as many.
+        int sent = sender.kept.size();
+        for (int k = before; k < sent && sender.kept.get(k).held; k++) {
             // SEEN grows first: an answer that is sent at once tells of this letter too.
             goal.seen++;
             if (toRequester) {

@@ -9,12 +9,14 @@ import java.util.TreeSet;
 
 /**
  * Plays runs of calls (from fixed seeds) on the class and on a slow model that looks its steps up in the
- * document's tables, and compares every answer. It fails, too, if some row of the tables was never played.
+ * document's tables, and compares every answer. No object is called more than 512 times: where more is asked at
+ * the end of a run, the run is played again on a new object. It fails, too, if some row of the tables was never
+ * played.
  */
 public final class ModelTest {
-    private static final int RUNS = 1500;
-    private static final int CALLS = 512;
-    private static final int WHOLE_LOOK_EVERY = 32;
+    private static final int RUNS = 3000;
+    private static final int MOST_CALLS = 512;
+    private static final int FEWEST_LOOKS = 112;
 
     private static final List<String> ASKER = List.of("ASKING", "CONDITION", "PROMISED", "COMING", "HERE",
             "RENEWING", "RECALLED", "BACK", "CLOSED", "UNFILLED", "CANCELLING", "CANCELLED", "LOST");
@@ -444,7 +446,19 @@ public final class ModelTest {
         }
     }
 
-    // ---- one call on both ----
+    // ---- runs as they are played on the model ----
+
+    private record Call(String name, int[] args, String want) {
+    }
+
+    private static final class Script {
+        final Model m = new Model();
+        final List<Call> calls = new ArrayList<>();
+
+        void call(String name, int... args) {
+            calls.add(new Call(name, args, onModel(m, name, args)));
+        }
+    }
 
     private static String onModel(Model m, String call, int[] a) {
         try {
@@ -496,14 +510,27 @@ public final class ModelTest {
         }
     }
 
-    private static void both(int run, LoanLetters x, Model m, String call, int... a) {
-        String want = onModel(m, call, a);
-        String got = onClass(x, call, a);
-        if (!got.equals(want)) {
+    /** The calls of the run on new objects, each time with as many of the looks behind it as one may be asked. */
+    private static void playOnClass(int run, List<Call> calls, List<Call> looks) {
+        int most = MOST_CALLS - calls.size();
+        for (int from = 0; from < looks.size() && wrong == 0; from += most) {
+            LoanLetters x = new LoanLetters();
+            for (Call call : calls) {
+                compare(run, x, call);
+            }
+            for (Call look : looks.subList(from, Math.min(from + most, looks.size()))) {
+                compare(run, x, look);
+            }
+        }
+    }
+
+    private static void compare(int run, LoanLetters x, Call call) {
+        String got = onClass(x, call.name, call.args);
+        if (!got.equals(call.want)) {
             wrong++;
             if (wrong <= 20) {
-                System.out.println("run " + run + ": " + call + Arrays.toString(a) + " answered " + got + ", due is "
-                        + want);
+                System.out.println("run " + run + ": " + call.name + Arrays.toString(call.args) + " answered " + got
+                        + ", due is " + call.want);
             }
         }
     }
@@ -523,31 +550,33 @@ public final class ModelTest {
         return dice.nextInt(Math.max(1, n));
     }
 
-    private static void anyCall(int run, Random dice, LoanLetters x, Model m, int mostLoans) {
+    private static void anyCall(Random dice, Script s, int mostLoans) {
+        Model m = s.m;
         int loans = m.loans.size();
         int roll = dice.nextInt(100);
         if (roll < 3) {
-            both(run, x, m, "addCopy", near(dice, 6), near(dice, 2));
+            s.call("addCopy", near(dice, 6), near(dice, 2));
         } else if (roll < 8 && (loans < mostLoans || dice.nextInt(10) == 0)) {
-            both(run, x, m, "request", near(dice, 6), near(dice, 2), near(dice, 6), 1 + near(dice, 99));
+            s.call("request", near(dice, 6), near(dice, 2), near(dice, 6), 1 + near(dice, 99));
         } else if (roll < 45) {
-            anyStep(run, dice, x, m);
+            anyStep(dice, s);
         } else if (roll < 49) {
-            both(run, x, m, "pass", dice.nextInt(8) == 0 ? oneOf(dice, -1, 0, 1, 1000, 1001) : 1 + dice.nextInt(12));
+            s.call("pass", dice.nextInt(8) == 0 ? oneOf(dice, -1, 0, 1, 1000, 1001) : 1 + dice.nextInt(12));
         } else if (roll < 53) {
-            both(run, x, m, "resend", near(dice, 6), near(dice, loans));
+            s.call("resend", near(dice, 6), near(dice, loans));
         } else if (roll < 84) {
             int last = m.row.size() - 1 - dice.nextInt(6);
-            both(run, x, m, "carry", dice.nextInt(3) == 0 ? near(dice, m.row.size()) : last);
+            s.call("carry", dice.nextInt(3) == 0 ? near(dice, m.row.size()) : last);
         } else if (roll < 88) {
-            both(run, x, m, "drop", near(dice, m.row.size()));
+            s.call("drop", near(dice, m.row.size()));
         } else {
-            anyQuestion(run, dice, x, m);
+            anyQuestion(dice, s);
         }
     }
 
     /** Of some loan a step that can be done, if there is one: a blind choice would seldom get far. */
-    private static void anyStep(int run, Random dice, LoanLetters x, Model m) {
+    private static void anyStep(Random dice, Script s) {
+        Model m = s.m;
         int loan = near(dice, m.loans.size());
         MLoan l = m.loan(loan);
         int first = dice.nextInt(15);
@@ -557,11 +586,11 @@ public final class ModelTest {
             Record r = step <= 6 ? l.own : l.suppliers.get(lib);
             boolean rare = (step == 2 || step == 6 || step == 9) && dice.nextInt(3) != 0;
             if (!rare && Arrays.asList(STEPS[step].split(": ")[0].split(", ")).contains(r.state)) {
-                both(run, x, m, "act", lib, loan, step, step == 7 ? copyFor(dice, m, l, lib) : price(dice));
+                s.call("act", lib, loan, step, step == 7 ? copyFor(dice, m, l, lib) : price(dice));
                 return;
             }
         }
-        both(run, x, m, "act", near(dice, 6), loan, near(dice, 15), near(dice, 32));
+        s.call("act", near(dice, 6), loan, near(dice, 15), near(dice, 32));
     }
 
     private static int copyFor(Random dice, Model m, MLoan l, int lib) {
@@ -579,80 +608,66 @@ public final class ModelTest {
         return dice.nextInt(3) == 0 ? oneOf(dice, -1, 0, 1, 1000, 1001) : 1 + dice.nextInt(1000);
     }
 
-    private static void anyQuestion(int run, Random dice, LoanLetters x, Model m) {
+    private static void anyQuestion(Random dice, Script s) {
+        Model m = s.m;
         int loan = near(dice, m.loans.size());
         int copy = near(dice, m.copies.size());
         int lib = near(dice, 6);
         switch (dice.nextInt(9)) {
-            case 0: both(run, x, m, "letters"); break;
-            case 1: both(run, x, m, "letter", near(dice, m.row.size()), near(dice, 7)); break;
-            case 2: both(run, x, m, "book", lib, loan, near(dice, 8)); break;
-            case 3: both(run, x, m, "supplier", loan); break;
-            case 4: both(run, x, m, "holder", copy); break;
-            case 5: both(run, x, m, "promised", copy); break;
-            case 6: both(run, x, m, "balance", lib); break;
-            case 7: both(run, x, m, "queue", lib, near(dice, 8)); break;
-            default: both(run, x, m, "settled", loan); break;
+            case 0: s.call("letters"); break;
+            case 1: s.call("letter", near(dice, m.row.size()), near(dice, 7)); break;
+            case 2: s.call("book", lib, loan, near(dice, 8)); break;
+            case 3: s.call("supplier", loan); break;
+            case 4: s.call("holder", copy); break;
+            case 5: s.call("promised", copy); break;
+            case 6: s.call("balance", lib); break;
+            case 7: s.call("queue", lib, near(dice, 8)); break;
+            default: s.call("settled", loan); break;
         }
     }
 
-    private static void lookAtAll(int run, LoanLetters x, Model m) {
-        both(run, x, m, "letters");
+    private static void lookAtAll(Script s) {
+        Model m = s.m;
+        s.call("letters");
         for (int i = -1; i <= m.row.size(); i++) {
             for (int what = -1; what <= 7; what++) {
-                both(run, x, m, "letter", i, what);
+                s.call("letter", i, what);
             }
         }
         for (int loan = -1; loan <= m.loans.size(); loan++) {
-            both(run, x, m, "supplier", loan);
-            both(run, x, m, "settled", loan);
+            s.call("supplier", loan);
+            s.call("settled", loan);
             for (int lib = -1; lib <= 6; lib++) {
                 for (int what = -1; what <= 8; what++) {
-                    both(run, x, m, "book", lib, loan, what);
+                    s.call("book", lib, loan, what);
                 }
             }
         }
         for (int copy = -1; copy <= m.copies.size(); copy++) {
-            both(run, x, m, "holder", copy);
-            both(run, x, m, "promised", copy);
+            s.call("holder", copy);
+            s.call("promised", copy);
         }
         for (int lib = -1; lib <= 6; lib++) {
-            both(run, x, m, "balance", lib);
+            s.call("balance", lib);
             for (int title = -1; title <= 8; title++) {
-                both(run, x, m, "queue", lib, title);
-            }
-        }
-        neverBoth(run, x, m.loans.size());
-    }
-
-    private static void neverBoth(int run, LoanLetters x, int loans) {
-        for (int loan = 0; loan < loans; loan++) {
-            int have = 0;
-            for (int lib = 0; lib < 6; lib++) {
-                have += Math.max(0, x.book(lib, loan, 7));
-            }
-            if (have > 1) {
-                wrong++;
-                System.out.println("run " + run + ": " + have + " libraries think that they have the copy of " + loan);
+                s.call("queue", lib, title);
             }
         }
     }
 
     private static void play(int run) {
         Random dice = new Random(run);
-        LoanLetters x = new LoanLetters();
-        Model m = new Model();
+        Script s = new Script();
         int mostLoans = oneOf(dice, 1, 2, 4, 32);
         for (int lib = 0; lib < 6 && run % 4 != 0; lib++) {
-            both(run, x, m, "addCopy", lib, dice.nextInt(2));
+            s.call("addCopy", lib, dice.nextInt(2));
         }
-        for (int k = 0; k < CALLS && wrong == 0; k++) {
-            anyCall(run, dice, x, m, mostLoans);
-            if (k % WHOLE_LOOK_EVERY == 0) {
-                lookAtAll(run, x, m);
-            }
+        int length = 6 + dice.nextInt(MOST_CALLS - FEWEST_LOOKS - 5);
+        while (s.calls.size() < length) {
+            anyCall(dice, s, mostLoans);
         }
-        lookAtAll(run, x, m);
+        lookAtAll(s);
+        playOnClass(run, s.calls.subList(0, length), s.calls.subList(length, s.calls.size()));
     }
 
     private static void lookForUnplayed() {

@@ -260,23 +260,6 @@ public final class PromiseTests extends Stages {
         due("settled(0)", x.settled(0), true);
     }
 
-    /** No pair of states that letters can lead to lets both sides think that they have the copy. */
-    private static void neverDoBothHaveTheCopy() {
-        part("promise 11");
-        for (int k = 0; k < STAGES; k++) {
-            LoanLetters x = stage(k);
-            for (int step = 0; step < STEPS; step++) {
-                int own = step;
-                answer(() -> x.act(own <= 6 ? 0 : 1, 0, own, 0));
-                due("both have it", x.book(0, 0, HAS) + x.book(1, 0, HAS) > 1, false);
-            }
-            for (int i = x.letters() - 1; i >= 0; i--) {
-                x.carry(i);
-                due("both have it", x.book(0, 0, HAS) + x.book(1, 0, HAS) > 1, false);
-            }
-        }
-    }
-
     public static void main(String[] args) {
         runTestsOf(PromiseTests.class);
     }
