@@ -5,9 +5,10 @@ import java.util.List;
 import java.util.Set;
 
 /**
- * One loan, and every order of steps and letters that it can have up to some number of calls: letters late, lost
- * (never carried), doubled (carried again) and crossing. Looked at after each call: never do both sides think that
- * they have the volume, the books tell where it is, and sides that have settled agree.
+ * One loan, and every order of steps and carried letters that it can have up to some number of calls: letters late,
+ * lost (never carried), doubled (carried again) and crossing; no day passes, and nothing is sent again before the
+ * end. Looked at after each call: never do both sides think that they have the volume, the books tell where it is,
+ * and sides that have settled agree.
  */
 public final class EveryOrder extends Stages {
     private static final int REQUESTER = 0, FIRST = 1, SECOND = 2;
